@@ -571,7 +571,7 @@ public final class PunCourts {
         boolean alikeByLetters(int one, int other) {
             int i = nextHeard(one, 0);
             int j = nextHeard(other, 0);
-            while (i < lengths[one] && j < lengths[other]) {
+            for (int heard = 0; heard < MOST_LETTERS && i < lengths[one] && j < lengths[other]; heard++) {
                 if (signAt(one, i) != signAt(other, j)) {
                     return false;
                 }

@@ -330,6 +330,8 @@ public final class PromisesTest {
         due("all are borne", x.count(6), 0);
         due("nothing more", x.pass(99), 0);
         due("given", x.count(10), 4);
+        PunCourts least = Check.court("rose0");
+        due("also an honour of 0", least.pass(1), 1);
         PunCourts y = Check.court("rose9rus8park1");
         y.set(PunCourts.NEAR, 11);
         y.give(0, 0);
@@ -417,6 +419,14 @@ public final class PromisesTest {
         x.give(1, 11);
         due("borne", x.name(1, 1), 1);
         due("corners 2 and 11", x.name(1, 2), 1 << 2 | 1 << 11);
+        PunCourts first = Check.court("rose3park5");
+        first.give(0, 0);
+        due("corner 0 too", first.name(0, 2), 1);
+        due("name 0 too is out of the queue", first.name(1, 3), 0);
+        first.strip(0);
+        due("name 0 behind it", first.name(0, 3), 1);
+        first.honour(0, 5);
+        due("name 0 ahead of it", first.name(1, 3), 1);
         due("not in the queue", x.name(1, 3), NONE);
         due("king moves up", x.name(2, 3), 1);
         due("given twice", x.name(1, 6), 2);
@@ -584,6 +594,14 @@ public final class PromisesTest {
         due("RESTS of now", y.why(2, 5), 6);
         y.set(PunCourts.RESTS, 10);
         due("RESTS of now", y.why(2, 5), 0);
+        y.give(2, 5);
+        due("rests from the day on which it was given", y.why(0, 5), 5);
+        y.honour(0, 9);
+        due("that is day 10", y.why(0, 5), 6);
+        y.pass(9);
+        due("on day 19", y.why(0, 5), 6);
+        y.pass(1);
+        due("on day 20", y.why(0, 5), 0);
         PunCourts z = Check.court("rose9rus3park1");
         z.set(PunCourts.RESTS, 0);
         z.give(0, 4);
@@ -680,6 +698,11 @@ public final class PromisesTest {
         due("three unlike names", x.count(12), 5);
         x.give(3, 6);
         due("another sound", x.count(12), 5);
+        PunCourts beside = Check.court("rose3rus3");
+        beside.set(PunCourts.NEAR, 0);
+        beside.give(0, 10);
+        beside.give(1, 11);
+        due("beside one another", beside.count(12), 1);
         x.strip(0);
         due("one less", x.count(12), 3);
     }
@@ -728,6 +751,34 @@ public final class PromisesTest {
         due("on the next day", y.untilBorne(1), 1);
         y.honour(1, 0);
         due("a lower honour never", y.untilBorne(1), NONE);
+        longWait();
+    }
+
+    /** Puns and rests keep name 11 waiting for 792 days in all: a run that a search has found. */
+    private static void longWait() {
+        PunCourts x = Check.court("cb0fd0df0ba0cb0ba0ca0fa0ba0da0cb0ba0df0fa0ca0fa0fc0fa0");
+        x.set(PunCourts.NEAR, 4);
+        x.set(PunCourts.BEARS, 5);
+        x.set(PunCourts.RESTS, 29);
+        x.pass(4);
+        x.give(6, 10);
+        int[] passed = {40, 99, 99, 99, 99, 51};
+        for (int days : passed) {
+            due("not within 300", x.untilBorne(11), NONE);
+            x.pass(days);
+        }
+        due("301 are too many", x.untilBorne(11), NONE);
+        x.pass(1);
+        due("300 are not", x.untilBorne(11), 300);
+        x.pass(99);
+        x.pass(99);
+        x.pass(99);
+        due("three are left", x.untilBorne(11), 3);
+        x.pass(2);
+        due("it still waits", x.name(11, 1), 0);
+        x.pass(1);
+        due("it is borne", x.name(11, 1), 1);
+        due("it is", x.untilBorne(11), 0);
     }
 
     /** All corners bear name 0, name 1 waits and is unlike it. */
@@ -949,6 +1000,13 @@ public final class PromisesTest {
         due("the pad stays", y.count(13), 5);
         due("and is read", y.read(), 1);
         due("another sound in the same place", y.name(0, 4), 152);
+        PunCourts shorter = Check.court("cathedral3");
+        shorter.undo();
+        Check.read(shorter, "ca3so3");
+        due("no letter of the undone name is heard", shorter.name(0, 4), 2);
+        due("so it is alike by sounds", shorter.alike(0, 1, 0), 1);
+        due("and by letters", shorter.alike(0, 1, 1), 1);
+        due("and the other way round", shorter.alike(1, 0, 1), 1);
         PunCourts z = new PunCourts();
         z.save(0);
         z.set(PunCourts.NEAR, 7);
