@@ -208,7 +208,7 @@ public final class PunCourts {
             case 4:
                 return now.cornerGiven[corner];
             case 5:
-                return now.mapIssued ? now.shown[corner] : NONE;
+                return now.shown[corner];
             default:
                 return BAD_VALUE;
         }
@@ -512,6 +512,7 @@ public final class PunCourts {
         final int[] cornerGiven = new int[CORNERS];
 
         boolean mapIssued;
+        /** NONE at each corner as long as there is no map. */
         final int[] shown = new int[CORNERS];
 
         Court() {

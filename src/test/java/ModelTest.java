@@ -4,6 +4,8 @@ import java.util.Random;
 public final class ModelTest {
     private static final int RUNS = 400;
     private static final int CALLS = 512;
+    /** A text of up to eleven characters is put, looked at, read and wiped. */
+    private static final int MOST_CALLS_OF_A_STEP = 5;
     private static final int[] ODD = {-1, -2, 12, 20, 61, 300, 301, 9999, Integer.MAX_VALUE, Integer.MIN_VALUE};
 
     private final PunCourts court = new PunCourts();
@@ -29,7 +31,7 @@ public final class ModelTest {
 
     private void play(int run) {
         int calls = 0;
-        while (calls < CALLS) {
+        while (calls + MOST_CALLS_OF_A_STEP <= CALLS) {
             int made = step();
             calls += made;
             if (got != want) {

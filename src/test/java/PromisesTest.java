@@ -1,7 +1,7 @@
 /** Each promise by itself: ordinary inputs, edges and wrong inputs, with answers worked out by hand. */
 public final class PromisesTest {
     private static final int NO_SUCH = -1, BAD_VALUE = -2, BAD_TEXT = -3, TOO_MANY = -4, NOT_POSSIBLE = -5, NONE = -6;
-    /** Twenty names without a pun among them would not fit the pad; these are told apart by their honours only. */
+    /** As many names as there can be; puns are among them. */
     private static final String TWENTY = "aa0bb1cc2dd3ee4ff5gg6hh7ii8jj9kk0ll1mm2nn3oo4pp5qq6rr7ss8tt9";
 
     public static void main(String[] args) {
@@ -31,12 +31,10 @@ public final class PromisesTest {
         untilBorne();
         untilPosted();
         ifPassed();
-        whatIfChangesNothing();
         putting();
         wiping();
         faults();
         undoing();
-        undoingEveryChange();
         errorsRecordNothing();
         saving();
         restoring();
@@ -848,40 +846,6 @@ public final class PromisesTest {
         due("nothing passed", x.count(4), 1);
     }
 
-    private static void whatIfChangesNothing() {
-        PunCourts x = Check.court("rose3rus5park5king5");
-        x.give(0, 3);
-        x.issue();
-        String before = face(x);
-        x.bestCorner(1);
-        x.untilBorne(1);
-        x.untilPosted();
-        x.ifPassed(300, 0);
-        x.ifPassed(300, 1);
-        x.ifPassed(300, 2);
-        x.why(1, 3);
-        Check.holds("what if changes nothing", before.equals(face(x)));
-    }
-
-    /** All that can be asked, but for the pad and the history. */
-    private static String face(PunCourts x) {
-        StringBuilder all = new StringBuilder();
-        for (int what = 0; what < 13; what++) {
-            all.append(x.count(what)).append(' ');
-        }
-        for (int name = 0; name < x.count(5); name++) {
-            for (int what = 0; what < 7; what++) {
-                all.append(x.name(name, what)).append(' ');
-            }
-        }
-        for (int corner = 0; corner < 12; corner++) {
-            for (int what = 0; what < 6; what++) {
-                all.append(x.corner(corner, what)).append(' ');
-            }
-        }
-        return all.toString();
-    }
-
     // Promise 19
     private static void putting() {
         PunCourts x = new PunCourts();
@@ -1016,40 +980,6 @@ public final class PromisesTest {
         due("with what was saved", z.count(PunCourts.NEAR), 7);
     }
 
-    private static void undoingEveryChange() {
-        PunCourts x = Check.court("rose3rus5park5king5");
-        x.give(0, 3);
-        x.give(2, 5);
-        x.issue();
-        x.pass(3);
-        x.save(0);
-        x.give(3, 11);
-        Check.type(x, "oak1");
-        String before = face(x);
-        for (int change = 0; change < 9; change++) {
-            int answer = change(x, change);
-            Check.holds("change " + change + " is none that fails", answer >= 0 || answer == NONE);
-            Check.holds("change " + change + " is recorded", x.count(14) == 6);
-            due("undo " + change, x.undo(), 5);
-            Check.holds("undo of change " + change + " brings all back", before.equals(face(x)));
-            x.set(PunCourts.NEAR, x.count(PunCourts.NEAR));
-        }
-    }
-
-    private static int change(PunCourts x, int change) {
-        switch (change) {
-            case 0: return x.set(PunCourts.NEAR, 8);
-            case 1: return x.read();
-            case 2: return x.honour(0, 9);
-            case 3: return x.withdraw(0);
-            case 4: return x.give(2, 10);
-            case 5: return x.strip(3);
-            case 6: return x.issue();
-            case 7: return x.pass(99);
-            default: return x.restore(0);
-        }
-    }
-
     private static void errorsRecordNothing() {
         PunCourts x = Check.court("rose3");
         x.set(9, 9);
@@ -1103,23 +1033,23 @@ public final class PromisesTest {
         x.pass(4);
         x.save(0);
         due("the other is empty", x.restore(1), NOT_POSSIBLE);
-        String saved = face(x);
+        String saved = Check.state(x);
         x.set(PunCourts.POSTS, 5);
         x.withdraw(1);
         x.issue();
         x.pass(50);
         Check.read(x, "oak3king5");
-        String later = face(x);
         Check.type(x, "abc");
         due("restore", x.restore(0), 4);
-        Check.holds("all is as it was saved", saved.equals(face(x)));
+        Check.same("all is as it was saved", Check.state(x), saved);
         due("the pad stays", x.count(13), 3);
         due("it is a change", x.undo(), 5);
-        Check.holds("undone", later.equals(face(x)));
+        due("undone: the days", x.count(4), 54);
+        due("undone: the names", x.count(5), 5);
         due("the slot keeps it", x.restore(0), 4);
         x.pass(9);
         due("also when time goes on", x.restore(0), 4);
-        Check.holds("as it was saved", saved.equals(face(x)));
+        Check.same("as it was saved", Check.state(x), saved);
         due("the history is kept", x.count(14), 6);
     }
 }
