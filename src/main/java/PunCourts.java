@@ -397,7 +397,9 @@ public final class PunCourts {
         copyRow(from.lengths, to.lengths);
         copyRow(from.sounds, to.sounds);
         copyRow(from.honours, to.honours);
-        System.arraycopy(from.withdrawn, 0, to.withdrawn, 0, Math.min(from.withdrawn.length, to.withdrawn.length));
+        for (int i = 0; i < from.withdrawn.length && i < to.withdrawn.length; i++) {
+            to.withdrawn[i] = from.withdrawn[i];
+        }
         copyRow(from.nameGiven, to.nameGiven);
         copyRow(from.borne, to.borne);
         copyRow(from.owed, to.owed);
@@ -528,7 +530,7 @@ public final class PunCourts {
             return name >= 0 && name < names && name < MOST_NAMES;
         }
 
-        /** Takes the letters from a text; the place of an undone name is used again, so all of it is set anew. */
+        /** Takes the letters from a text; all of the name is set anew, whatever stood at its place. */
         void apply(char[] text, int start, int length, int honour) {
             if (names < 0 || names >= MOST_NAMES || length < 0 || length > MOST_LETTERS) {
                 return;
